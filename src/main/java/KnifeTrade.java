@@ -876,7 +876,6 @@ public final class KnifeTrade {
             int[] row = river.landings.rows[there];
             if (owedFrom[there] != NONE && day >= owedFrom[there] + row[RETURN_DAYS]) {
                 loads[row[RETURN]] += row[RETURNS];
-                owedFrom[there] = NONE;
             }
             if (loads[row[GIFT]] < row[GIFTS]) {
                 wrong = UNWELCOME;

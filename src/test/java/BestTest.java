@@ -6,6 +6,7 @@ public final class BestTest {
         best();
         bestOfLikeOnes();
         asManyTimes();
+        bestGoesOn();
         bestComesBack();
         bestGoesRight();
         bestWithGreetings();
@@ -113,6 +114,7 @@ public final class BestTest {
         // Up and down pass two days as two waits do, and are the first row.
         dueBest(x, 4, 12, 3, 0, 1, 3);
         x.start(0, 13);
+        dueBest(x, 3, 12, 3, 2, 3);
         dueBest(x, 4, 12, 3, 2, 3);
         // No time that would be heavy.
         x.moves(0, 0, 0, 99);
@@ -134,6 +136,41 @@ public final class BestTest {
         y.change(0, 1, 2, 0, 2);
         dueBest(y, 1, 198, 3);
         dueBest(y, 4, 198, 3);
+    }
+
+    /** How often a change was done, and how it moved, goes on from act to act. */
+    private static void bestGoesOn() {
+        CHECK.about("promise 17");
+        KnifeTrade x = new KnifeTrade();
+        x.landing(0, 0);
+        x.thing(2, 0);
+        x.thing(1, 0);
+        x.thing(1, 0);
+        x.put(4, 1);
+        x.start(0, 1);
+        x.start(2, 1);
+        x.change(0, 0, 1, 1, 1);
+        x.change(0, 2, 1, 0, 2);
+        dueBest(x, 2, 3, 4, 3);
+        // So little room that change 0 must be done ahead of change 1 and behind it.
+        x.put(0, 5);
+        dueBest(x, 3, 3, 3, 4, 3);
+        dueBest(x, 2, 1, 3);
+        x.moves(0, 2, 0, 99);
+        dueBest(x, 3, 2, 3, 4, 3);
+        x.moves(0, 1, 0, 99);
+        dueBest(x, 3, 2, 3, 4, 3);
+        x.moves(0, 0, 0, 2);
+        dueBest(x, 3, 2, 3, 4, 3);
+        // What moved weighs more when it is given: 2 for 4, then 3 for 4 of thing 0.
+        KnifeTrade y = river(2);
+        y.start(0, 10);
+        y.change(0, 0, 2, 1, 4);
+        y.moves(0, 1, 0, 99);
+        y.put(0, 13);
+        dueBest(y, 1, 12, 3);
+        y.put(0, 12);
+        dueBest(y, 1, 4, 3);
     }
 
     private static void bestComesBack() {

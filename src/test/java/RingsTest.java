@@ -9,10 +9,12 @@ public final class RingsTest {
         firstRow();
         fromItsLeastChange();
         thingsUnlike();
+        goneWithAnImage();
         notLookedAt();
         largeRing();
         price();
         priceOverWays();
+        priceOfNearOnes();
         priceRefused();
         largePrice();
         CHECK.end();
@@ -128,6 +130,27 @@ public final class RingsTest {
         x.change(0, 1, 4, 0, 3);
         x.change(1, 0, 1, 2, 2);
         dueRing(x, 2, 1, 2, 4);
+        // Nor to one in its midst: else all four would gain 16.
+        x = river(3);
+        x.change(0, 0, 1, 1, 2);
+        x.change(0, 1, 1, 2, 2);
+        x.change(0, 2, 1, 1, 2);
+        x.change(0, 1, 1, 0, 2);
+        dueRing(x, 4, 1, 0, 3);
+    }
+
+    private static void goneWithAnImage() {
+        CHECK.about("promise 15");
+        KnifeTrade x = river(2);
+        x.change(0, 0, 1, 1, 2);
+        x.image(0);
+        x.change(0, 1, 1, 0, 2);
+        dueRing(x, 4, 1, 0, 1);
+        x.from(0);
+        CHECK.due("ring(NONE)", x.ring(-1), -5);
+        CHECK.due("ring(0)", x.ring(0), -5);
+        CHECK.due("price(0)", x.price(0), 1);
+        CHECK.duePart(x, 1, 1);
     }
 
     private static void notLookedAt() {
@@ -196,6 +219,8 @@ public final class RingsTest {
         duePrice(x, 0, 16, 1);
         x.change(0, 0, 1, 5, 17);
         duePrice(x, 0, 17, 1);
+        x.change(0, 4, 20, 5, 19);
+        duePrice(x, 4, 1, 1);
         // A ring that gains just nothing is no way to gain; home stays 1.
         x.change(0, 5, 17, 0, 1);
         duePrice(x, 0, 17, 1);
@@ -208,6 +233,26 @@ public final class RingsTest {
         duePrice(x, 0, 1, 1);
         duePrice(x, 1, 1, 1);
         duePrice(x, 2, 0, 1);
+    }
+
+    /** The greatest of ways that gain nearly alike, in each order. */
+    private static void priceOfNearOnes() {
+        CHECK.about("promise 16");
+        int[][] falling = {{19, 20}, {4, 5}, {7, 9}, {3, 4}, {2, 3}, {13, 20}, {1, 20}};
+        for (int i = 0; i < falling.length - 1; i++) {
+            int[] more = falling[i];
+            int[] less = falling[i + 1];
+            KnifeTrade x = river(2);
+            x.put(4, 1);
+            x.change(0, 0, more[1], 1, more[0]);
+            x.change(0, 0, less[1], 1, less[0]);
+            duePrice(x, 0, more[0], more[1]);
+            x = river(2);
+            x.put(4, 1);
+            x.change(0, 0, less[1], 1, less[0]);
+            x.change(0, 0, more[1], 1, more[0]);
+            duePrice(x, 0, more[0], more[1]);
+        }
     }
 
     private static void priceRefused() {

@@ -103,6 +103,7 @@ public final class TextsTest {
             {"do 99 99;", -1}, {"do00 05;", -1}, {"up;down;wait 7;do 3 2;", -1},
             // words that are none of these
             {"upp;", 0}, {"u;", 0}, {"updown;", 0}, {"u p;", 0}, {"up; do wn;", 7},
+            {"upa;", 0}, {"upz;", 0}, {"up`;", 2}, {"up{;", 2}, {"wait 1/;", 6}, {"wait 1:;", 6},
             {"waits 1;", 0}, {"dow;", 0}, {"up; x", 4}, {"up;u", 3}, {"Up;", 0}, {"uP;", 0},
             {"up;doo 1 1;", 3},
             // tokens where they can not stand

@@ -188,8 +188,10 @@ public final class VoyagesTest {
         CHECK.dueRun(x, "up;", 0, 3, 1, 1);
         // The change that makes it heavy is done; the step did not go right.
         x.greeting(1, 0, 0, 0, 0, 0);
-        x.put(0, 105);
         x.change(0, 0, 1, 1, 1);
+        x.put(0, 106);
+        CHECK.dueRun(x, "do 0 1; do 0 1;", 2, 0, 0, 0);
+        x.put(0, 105);
         CHECK.dueRun(x, "do 0 1; do 0 2;", 1, 4, 0, 0);
         CHECK.dueLoads(x, 48, 2);
         // A change that lightens what is heavy still is heavy.
@@ -296,6 +298,14 @@ public final class VoyagesTest {
             CHECK.due("rival(" + wait[0] + ", 2)", x.rival(wait[0], 2), 3);
             CHECK.due("rival(" + wait[0] + ", 3)", x.rival(wait[0], 3), 1);
         }
+        // Its days go on from its last one: day 3 to 6.
+        Check.tell(x, 1, "up; do 0 5; wait 1; down;");
+        CHECK.due("run(1, 2)", x.run(1, 2), 3);
+        CHECK.due("rival(0, 4)", x.rival(0, 4), 33);
+        CHECK.due("rival(1, 4)", x.rival(1, 4), 35);
+        CHECK.due("rival(4, 4)", x.rival(4, 4), 35);
+        CHECK.due("rival(5, 4)", x.rival(5, 4), 37);
+        Check.tell(x, 1, "up; do 0 5; down;");
         // What it did counts against most.
         x.moves(0, 1, 4, 6);
         CHECK.due("rival(0, 0)", x.rival(0, 0), 1);
