@@ -667,6 +667,7 @@ public final class KnifeTrade {
         private static final int WORD = 0, CHANGE = 1, TIMES = 2, END = 3, NOTHING = 4;
 
         final int[] kinds = new int[MOST_STEPS];
+        // Only where the step's kind has a number there: old ones stay behind up and down.
         final int[] changes = new int[MOST_STEPS];
         final int[] times = new int[MOST_STEPS];
         int size;
@@ -709,8 +710,6 @@ public final class KnifeTrade {
         }
 
         private int behindWord(Text text, int at, int end) {
-            changes[size] = 0;
-            times[size] = 1;
             if (text.spells(at, end, "up")) {
                 kinds[size] = UP;
                 return END;
@@ -911,7 +910,7 @@ public final class KnifeTrade {
 
         /** Does a change as many times as goes right and not heavy: whether it was done. */
         boolean doAll(int k) {
-            int done = 0;
+            boolean done = false;
             int free = river.numbers[ROOM] - weight();
             for (int i = 0; i < MOST_TIMES && canDo(k); i++) {
                 int more = moreWeight(k);
@@ -920,9 +919,9 @@ public final class KnifeTrade {
                 }
                 free -= more;
                 doOnce(k);
-                done++;
+                done = true;
             }
-            return done > 0;
+            return done;
         }
 
         boolean canDo(int k) {
