@@ -365,6 +365,27 @@ public final class BestTest {
         CHECK.due("put(5, NONE)", x.put(5, -1), 1);
         CHECK.due("where(4)", x.where(4), 0);
         CHECK.due("put(5, NONE)", x.put(5, -1), -1);
+        whereNoneWereBetter();
+    }
+
+    /** Changes that do not move can take too much of the food; a post is at a landing for all that. */
+    private static void whereNoneWereBetter() {
+        KnifeTrade x = river(3);
+        x.put(1, 1);
+        x.put(2, 0);
+        x.start(0, 4);
+        x.start(2, 4);
+        x.change(1, 0, 1, 1, 1);
+        x.moves(0, 1, 0, 99);
+        x.change(0, 2, 1, 0, 1);
+        x.moves(1, 1, 0, 99);
+        // 2 more food; 2 eaten on the way up, 1 and 2 given, 1 left for the way down.
+        dueBest(x, 4, 2, 4, 0, 3, 1);
+        x.put(5, 0);
+        dueBest(x, 4, 1, 0, 3, 1);
+        x.put(5, 1);
+        dueBest(x, 4, 0);
+        CHECK.due("where(4)", x.where(4), 0);
     }
 
     private static void othersRefused() {
