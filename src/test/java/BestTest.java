@@ -33,36 +33,28 @@ public final class BestTest {
         return x;
     }
 
-    private static void dueBest(KnifeTrade x, int n, int home, int... acts) {
-        CHECK.due("best(" + n + ", NONE)", x.best(n, -1), home);
-        CHECK.due("best(" + n + ", 4)", x.best(n, 4), acts.length);
-        for (int i = 0; i < 4; i++) {
-            CHECK.due("best(" + n + ", " + i + ")", x.best(n, i), i < acts.length ? acts[i] : -5);
-        }
-    }
-
     private static void best() {
         CHECK.about("promise 17");
         KnifeTrade x = river(3);
         x.start(0, 12);
-        dueBest(x, 4, 0);
+        CHECK.dueBest(x, 4, 0);
         x.start(1, 2);
-        dueBest(x, 4, 2);
+        CHECK.dueBest(x, 4, 2);
         x.change(0, 0, 3, 1, 1);
-        dueBest(x, 0, 2);
-        dueBest(x, 1, 6, 3);
-        dueBest(x, 4, 6, 3);
+        CHECK.dueBest(x, 0, 2);
+        CHECK.dueBest(x, 1, 6, 3);
+        CHECK.dueBest(x, 4, 6, 3);
         x.change(1, 0, 3, 1, 2);
-        dueBest(x, 2, 6, 3);
-        dueBest(x, 3, 10, 0, 4, 1);
+        CHECK.dueBest(x, 2, 6, 3);
+        CHECK.dueBest(x, 3, 10, 0, 4, 1);
         x.change(0, 0, 1, 2, 1);
         x.change(1, 2, 1, 1, 1);
-        dueBest(x, 3, 10, 0, 4, 1);
-        dueBest(x, 4, 14, 5, 0, 6, 1);
+        CHECK.dueBest(x, 3, 10, 0, 4, 1);
+        CHECK.dueBest(x, 4, 14, 5, 0, 6, 1);
         x.put(4, 2);
-        dueBest(x, 4, 12, 5);
+        CHECK.dueBest(x, 4, 12, 5);
         x.put(4, 0);
-        dueBest(x, 4, 12);
+        CHECK.dueBest(x, 4, 12);
     }
 
     private static void bestOfLikeOnes() {
@@ -73,23 +65,23 @@ public final class BestTest {
         x.change(0, 2, 1, 1, 1);
         x.change(0, 0, 1, 1, 1);
         // Both rows bring 8: the first one.
-        dueBest(x, 1, 4, 3);
-        dueBest(x, 2, 8, 3, 4);
-        dueBest(x, 4, 8, 3, 4);
+        CHECK.dueBest(x, 1, 4, 3);
+        CHECK.dueBest(x, 2, 8, 3, 4);
+        CHECK.dueBest(x, 4, 8, 3, 4);
         // Fewer acts come ahead of the first row.
         x.change(0, 0, 1, 2, 1);
-        dueBest(x, 4, 8, 3, 4);
+        CHECK.dueBest(x, 4, 8, 3, 4);
         x.change(0, 0, 1, 1, 2);
-        dueBest(x, 4, 12, 3, 6);
+        CHECK.dueBest(x, 4, 12, 3, 6);
         x.change(0, 0, 4, 1, 12);
-        dueBest(x, 1, 12, 7);
-        dueBest(x, 2, 16, 3, 7);
+        CHECK.dueBest(x, 1, 12, 7);
+        CHECK.dueBest(x, 2, 16, 3, 7);
         KnifeTrade y = river(2);
         y.start(0, 4);
         y.change(1, 0, 1, 1, 1);
         y.change(0, 0, 1, 1, 1);
         // The row that begins with up is the first one, but it has more acts.
-        dueBest(y, 4, 4, 4);
+        CHECK.dueBest(y, 4, 4, 4);
     }
 
     private static void asManyTimes() {
@@ -97,45 +89,45 @@ public final class BestTest {
         KnifeTrade x = river(3);
         x.start(0, 11);
         x.change(0, 0, 2, 1, 3);
-        dueBest(x, 1, 15, 3);
+        CHECK.dueBest(x, 1, 15, 3);
         x.moves(0, 0, 0, 3);
-        dueBest(x, 1, 9, 3);
-        dueBest(x, 4, 9, 3);
+        CHECK.dueBest(x, 1, 9, 3);
+        CHECK.dueBest(x, 4, 9, 3);
         x.moves(0, 0, 0, 0);
-        dueBest(x, 4, 0);
+        CHECK.dueBest(x, 4, 0);
         // 2, 3, 4 are given.
         x.moves(0, 1, 0, 99);
-        dueBest(x, 1, 9, 3);
+        CHECK.dueBest(x, 1, 9, 3);
         // On each day it comes back by one: behind 2, 3, 4 it gives 4 again on day 1, 3 on day 2.
         x.moves(0, 1, 1, 99);
-        dueBest(x, 4, 9, 3);
+        CHECK.dueBest(x, 4, 9, 3);
         x.start(0, 12);
-        dueBest(x, 3, 9, 3);
+        CHECK.dueBest(x, 3, 9, 3);
         // Up and down pass two days as two waits do, and are the first row.
-        dueBest(x, 4, 12, 3, 0, 1, 3);
+        CHECK.dueBest(x, 4, 12, 3, 0, 1, 3);
         x.start(0, 13);
-        dueBest(x, 3, 12, 3, 2, 3);
-        dueBest(x, 4, 12, 3, 2, 3);
+        CHECK.dueBest(x, 3, 12, 3, 2, 3);
+        CHECK.dueBest(x, 4, 12, 3, 2, 3);
         // No time that would be heavy.
         x.moves(0, 0, 0, 99);
         x.start(0, 12);
         x.put(0, 15);
-        dueBest(x, 1, 9, 3);
+        CHECK.dueBest(x, 1, 9, 3);
         x.put(0, 12);
-        dueBest(x, 1, 0);
+        CHECK.dueBest(x, 1, 0);
         // What is heavy at the start must be light enough behind the first time.
         x.change(0, 0, 6, 1, 5);
         x.put(0, 11);
-        dueBest(x, 1, 10, 4);
+        CHECK.dueBest(x, 1, 10, 4);
         x.put(0, 10);
-        dueBest(x, 4, 0);
+        CHECK.dueBest(x, 4, 0);
         // Ninety-nine times in all and no more.
         KnifeTrade y = river(2);
         y.start(0, 99);
         y.change(0, 0, 1, 1, 2);
         y.change(0, 1, 2, 0, 2);
-        dueBest(y, 1, 198, 3);
-        dueBest(y, 4, 198, 3);
+        CHECK.dueBest(y, 1, 198, 3);
+        CHECK.dueBest(y, 4, 198, 3);
     }
 
     /** How often a change was done, and how it moved, goes on from act to act. */
@@ -151,26 +143,26 @@ public final class BestTest {
         x.start(2, 1);
         x.change(0, 0, 1, 1, 1);
         x.change(0, 2, 1, 0, 2);
-        dueBest(x, 2, 3, 4, 3);
+        CHECK.dueBest(x, 2, 3, 4, 3);
         // So little room that change 0 must be done ahead of change 1 and behind it.
         x.put(0, 5);
-        dueBest(x, 3, 3, 3, 4, 3);
-        dueBest(x, 2, 1, 3);
+        CHECK.dueBest(x, 3, 3, 3, 4, 3);
+        CHECK.dueBest(x, 2, 1, 3);
         x.moves(0, 2, 0, 99);
-        dueBest(x, 3, 2, 3, 4, 3);
+        CHECK.dueBest(x, 3, 2, 3, 4, 3);
         x.moves(0, 1, 0, 99);
-        dueBest(x, 3, 2, 3, 4, 3);
+        CHECK.dueBest(x, 3, 2, 3, 4, 3);
         x.moves(0, 0, 0, 2);
-        dueBest(x, 3, 2, 3, 4, 3);
+        CHECK.dueBest(x, 3, 2, 3, 4, 3);
         // What moved weighs more when it is given: 2 for 4, then 3 for 4 of thing 0.
         KnifeTrade y = river(2);
         y.start(0, 10);
         y.change(0, 0, 2, 1, 4);
         y.moves(0, 1, 0, 99);
         y.put(0, 13);
-        dueBest(y, 1, 12, 3);
+        CHECK.dueBest(y, 1, 12, 3);
         y.put(0, 12);
-        dueBest(y, 1, 4, 3);
+        CHECK.dueBest(y, 1, 4, 3);
     }
 
     private static void bestComesBack() {
@@ -180,10 +172,10 @@ public final class BestTest {
         x.start(0, 5);
         x.change(1, 0, 1, 1, 1);
         x.change(2, 0, 1, 1, 9);
-        dueBest(x, 2, 0);
-        dueBest(x, 3, 5, 0, 3, 1);
+        CHECK.dueBest(x, 2, 0);
+        CHECK.dueBest(x, 3, 5, 0, 3, 1);
         // Landing 2 takes five acts.
-        dueBest(x, 4, 5, 0, 3, 1);
+        CHECK.dueBest(x, 4, 5, 0, 3, 1);
     }
 
     private static void bestGoesRight() {
@@ -191,29 +183,29 @@ public final class BestTest {
         KnifeTrade x = river(3);
         x.start(0, 5);
         x.change(1, 0, 1, 1, 1);
-        dueBest(x, 3, 5, 0, 3, 1);
+        CHECK.dueBest(x, 3, 5, 0, 3, 1);
         x.put(3, 2);
-        dueBest(x, 3, 5, 0, 3, 1);
+        CHECK.dueBest(x, 3, 5, 0, 3, 1);
         x.put(3, 1);
-        dueBest(x, 3, 0);
+        CHECK.dueBest(x, 3, 0);
         x.put(3, 100);
         // Hands eat 2 a day of what is changed: 5 to 3, all changed, hungry; 4 are needed.
         x.put(2, 2);
-        dueBest(x, 3, 0);
+        CHECK.dueBest(x, 3, 0);
         x.start(2, 4);
-        dueBest(x, 3, 5, 0, 3, 1);
+        CHECK.dueBest(x, 3, 5, 0, 3, 1);
         x.start(2, 3);
-        dueBest(x, 3, 0);
+        CHECK.dueBest(x, 3, 0);
         x.put(2, -1);
         x.greeting(1, 2, 3, 2, 0, 0);
-        dueBest(x, 3, 5, 0, 3, 1);
+        CHECK.dueBest(x, 3, 5, 0, 3, 1);
         x.greeting(1, 2, 4, 2, 0, 0);
-        dueBest(x, 3, 0);
+        CHECK.dueBest(x, 3, 0);
         x.greeting(1, 2, 0, 2, 0, 0);
         x.put(0, 8);
-        dueBest(x, 3, 5, 0, 3, 1);
+        CHECK.dueBest(x, 3, 5, 0, 3, 1);
         x.put(0, 7);
-        dueBest(x, 3, 0);
+        CHECK.dueBest(x, 3, 0);
     }
 
     private static void bestWithGreetings() {
@@ -222,12 +214,12 @@ public final class BestTest {
         x.start(1, 3);
         // One given at landing 0 on day 2, nine come back there on day 4.
         x.greeting(0, 1, 1, 1, 9, 2);
-        dueBest(x, 3, 3);
-        dueBest(x, 4, 10, 0, 1, 0, 1);
+        CHECK.dueBest(x, 3, 3);
+        CHECK.dueBest(x, 4, 10, 0, 1, 0, 1);
         x.greeting(0, 1, 1, 1, 9, 3);
-        dueBest(x, 4, 3);
+        CHECK.dueBest(x, 4, 3);
         x.greeting(0, 1, 1, 1, 1, 2);
-        dueBest(x, 4, 3);
+        CHECK.dueBest(x, 4, 3);
     }
 
     private static void bestRefused() {
@@ -380,11 +372,11 @@ public final class BestTest {
         x.change(0, 2, 1, 0, 1);
         x.moves(1, 1, 0, 99);
         // 2 more food; 2 eaten on the way up, 1 and 2 given, 1 left for the way down.
-        dueBest(x, 4, 2, 4, 0, 3, 1);
+        CHECK.dueBest(x, 4, 2, 4, 0, 3, 1);
         x.put(5, 0);
-        dueBest(x, 4, 1, 0, 3, 1);
+        CHECK.dueBest(x, 4, 1, 0, 3, 1);
         x.put(5, 1);
-        dueBest(x, 4, 0);
+        CHECK.dueBest(x, 4, 0);
         CHECK.due("where(4)", x.where(4), 0);
     }
 

@@ -70,4 +70,22 @@ final class Check {
         due("part(0)", x.part(0), above);
         due("part(1)", x.part(1), below);
     }
+
+    /** The whole of best() for so many acts: home, how many acts, each of them. */
+    void dueBest(KnifeTrade x, int n, int home, int... acts) {
+        due("best(" + n + ", NONE)", x.best(n, -1), home);
+        due("best(" + n + ", 4)", x.best(n, 4), acts.length);
+        for (int i = 0; i < 4; i++) {
+            due("best(" + n + ", " + i + ")", x.best(n, i), i < acts.length ? acts[i] : -5);
+        }
+    }
+
+    /** What digest() makes of these values. */
+    static long mixed(long... values) {
+        long h = 499;
+        for (long v : values) {
+            h = 31 * h + v;
+        }
+        return h;
+    }
 }

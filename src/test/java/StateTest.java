@@ -169,22 +169,14 @@ public final class StateTest {
         CHECK.due("count(5)", x.count(5), -2);
     }
 
-    private static long mixed(long... values) {
-        long h = 499;
-        for (long v : values) {
-            h = 31 * h + v;
-        }
-        return h;
-    }
-
     private static void digest() {
         CHECK.about("promise 29");
         KnifeTrade x = new KnifeTrade();
-        long empty = mixed(0, 0, 0, 0, 0, 100, 2, -1, 100, 0, -1, 0, 1);
+        long empty = Check.mixed(0, 0, 0, 0, 0, 100, 2, -1, 100, 0, -1, 0, 1);
         CHECK.due("digest()", x.digest(), empty);
         x = river();
         x.ring(-1);
-        long due = mixed(2, 2, 2, 11, 4,
+        long due = Check.mixed(2, 2, 2, 11, 4,
                 0, 0, 0, 0, 0, 0, 0, 4, 3, 1, 0, 0, 6, 12,
                 2, 5, 9, 7, 0, 0,
                 100, 2, 0, 100, 0, 1,
