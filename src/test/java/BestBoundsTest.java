@@ -34,12 +34,10 @@ public final class BestBoundsTest {
         worth();
         worthRefused();
         worthOfOneMore();
-        lack();
+        othersRefused();
         lackOfWhatThereIs();
         lackOfLikeOnes();
-        crew();
         crewOfLikeOnes();
-        where();
         whereOfLikeOnes();
         CHECK.end();
     }
@@ -360,17 +358,24 @@ public final class BestBoundsTest {
         CHECK.due("worth(2, 1)", y.worth(2, 1), 0);
     }
 
-    private static void lack() {
-        CHECK.about("promise 19, LACK, n as for best()");
-        RICH.beyond("lack(v)", (x, v) -> x.lack(v), 0, 4, BAD);
-        PLAIN.range("lack(v)", (x, v) -> x.lack(v), 0, 4, NONE, BAD);
-        CHECK.about("promise 19, NO");
-        NO_LANDINGS.refused("lack(v)", (x, v) -> x.lack(v), NO, 0, 4);
-        HOMELESS.refused("lack(v)", (x, v) -> x.lack(v), NO, 0, 4);
-        CHECK.about("promise 19, BAD comes ahead of NO");
-        EMPTY.beyond("lack(v)", (x, v) -> x.lack(v), 0, 4, BAD);
-        NO_LANDINGS.beyond("lack(v)", (x, v) -> x.lack(v), 0, 4, BAD);
-        HOMELESS.beyond("lack(v)", (x, v) -> x.lack(v), 0, 4, BAD);
+    private static void othersRefused() {
+        dueAsBest("promise 19", "lack(v)", (x, v) -> x.lack(v), NONE);
+        dueAsBest("promise 20", "crew(v)", (x, v) -> x.crew(v), 1);
+        dueAsBest("promise 21", "where(v)", (x, v) -> x.where(v), 0);
+    }
+
+    private static void dueAsBest(String promise, String name, Bounds.Call call, int ofPlain) {
+        CHECK.about(promise + ", n 0 .. 4 as for best()");
+        RICH.beyond(name, call, 0, 4, BAD);
+        PLAIN.range(name, call, 0, 4, ofPlain, BAD);
+        CHECK.about(promise + ", NO");
+        EMPTY.refused(name, call, NO, 0, 4);
+        NO_LANDINGS.refused(name, call, NO, 0, 1, 2, 3, 4);
+        HOMELESS.refused(name, call, NO, 0, 1, 2, 3, 4);
+        CHECK.about(promise + ", BAD comes ahead of NO");
+        EMPTY.beyond(name, call, 0, 4, BAD);
+        NO_LANDINGS.beyond(name, call, 0, 4, BAD);
+        HOMELESS.beyond(name, call, 0, 4, BAD);
     }
 
     private static void lackOfWhatThereIs() {
@@ -408,19 +413,6 @@ public final class BestBoundsTest {
         CHECK.due("lack(4)", y.lack(4), 2);
     }
 
-    private static void crew() {
-        CHECK.about("promise 20, CREW, n as for best()");
-        RICH.beyond("crew(v)", (x, v) -> x.crew(v), 0, 4, BAD);
-        PLAIN.range("crew(v)", (x, v) -> x.crew(v), 0, 4, 1, BAD);
-        CHECK.about("promise 20, NO");
-        EMPTY.refused("crew(v)", (x, v) -> x.crew(v), NO, 0, 4);
-        NO_LANDINGS.refused("crew(v)", (x, v) -> x.crew(v), NO, 0, 4);
-        HOMELESS.refused("crew(v)", (x, v) -> x.crew(v), NO, 0, 4);
-        CHECK.about("promise 20, BAD comes ahead of NO");
-        EMPTY.beyond("crew(v)", (x, v) -> x.crew(v), 0, 4, BAD);
-        HOMELESS.beyond("crew(v)", (x, v) -> x.crew(v), 0, 4, BAD);
-    }
-
     private static void crewOfLikeOnes() {
         CHECK.about("promise 20, 'HANDS 1 .. 6 with the most HOME so, of like ones the fewest'");
         KnifeTrade x = new KnifeTrade();
@@ -445,19 +437,6 @@ public final class BestBoundsTest {
             CHECK.due("crew(4)", x.crew(4), 1);
             CHECK.due("put(1, " + hands + ")", x.put(1, hands), hands);
         }
-    }
-
-    private static void where() {
-        CHECK.about("promise 21, WHERE, n as for best()");
-        RICH.beyond("where(v)", (x, v) -> x.where(v), 0, 4, BAD);
-        PLAIN.range("where(v)", (x, v) -> x.where(v), 0, 4, 0, BAD);
-        CHECK.about("promise 21, NO");
-        EMPTY.refused("where(v)", (x, v) -> x.where(v), NO, 0, 4);
-        NO_LANDINGS.refused("where(v)", (x, v) -> x.where(v), NO, 0, 4);
-        HOMELESS.refused("where(v)", (x, v) -> x.where(v), NO, 0, 4);
-        CHECK.about("promise 21, BAD comes ahead of NO");
-        EMPTY.beyond("where(v)", (x, v) -> x.where(v), 0, 4, BAD);
-        HOMELESS.beyond("where(v)", (x, v) -> x.where(v), 0, 4, BAD);
     }
 
     private static void whereOfLikeOnes() {

@@ -8,27 +8,18 @@ public final class BestTest {
         asManyTimes();
         bestGoesOn();
         bestComesBack();
-        bestGoesRight();
         bestWithGreetings();
-        bestRefused();
         worth();
         lack();
         crew();
         where();
-        othersRefused();
         nothingIsChanged();
         CHECK.end();
     }
 
     /** Two landings a day apart, so many things of weight 1 that do not spoil; home is thing 1. */
     private static KnifeTrade river(int things) {
-        KnifeTrade x = new KnifeTrade();
-        x.landing(0, 0);
-        x.landing(1, 1);
-        for (int i = 0; i < things; i++) {
-            x.thing(1, 0);
-        }
-        x.put(0, 500);
+        KnifeTrade x = Rivers.plain(2, things);
         x.put(4, 1);
         return x;
     }
@@ -178,36 +169,6 @@ public final class BestTest {
         CHECK.dueBest(x, 4, 5, 0, 3, 1);
     }
 
-    private static void bestGoesRight() {
-        CHECK.about("promise 17");
-        KnifeTrade x = river(3);
-        x.start(0, 5);
-        x.change(1, 0, 1, 1, 1);
-        CHECK.dueBest(x, 3, 5, 0, 3, 1);
-        x.put(3, 2);
-        CHECK.dueBest(x, 3, 5, 0, 3, 1);
-        x.put(3, 1);
-        CHECK.dueBest(x, 3, 0);
-        x.put(3, 100);
-        // Hands eat 2 a day of what is changed: 5 to 3, all changed, hungry; 4 are needed.
-        x.put(2, 2);
-        CHECK.dueBest(x, 3, 0);
-        x.start(2, 4);
-        CHECK.dueBest(x, 3, 5, 0, 3, 1);
-        x.start(2, 3);
-        CHECK.dueBest(x, 3, 0);
-        x.put(2, -1);
-        x.greeting(1, 2, 3, 2, 0, 0);
-        CHECK.dueBest(x, 3, 5, 0, 3, 1);
-        x.greeting(1, 2, 4, 2, 0, 0);
-        CHECK.dueBest(x, 3, 0);
-        x.greeting(1, 2, 0, 2, 0, 0);
-        x.put(0, 8);
-        CHECK.dueBest(x, 3, 5, 0, 3, 1);
-        x.put(0, 7);
-        CHECK.dueBest(x, 3, 0);
-    }
-
     private static void bestWithGreetings() {
         CHECK.about("promise 17");
         KnifeTrade x = river(2);
@@ -220,27 +181,6 @@ public final class BestTest {
         CHECK.dueBest(x, 4, 3);
         x.greeting(0, 1, 1, 1, 1, 2);
         CHECK.dueBest(x, 4, 3);
-    }
-
-    private static void bestRefused() {
-        CHECK.about("promise 17");
-        KnifeTrade x = new KnifeTrade();
-        CHECK.due("best(0, NONE)", x.best(0, -1), -20);
-        CHECK.due("best(-1, 0)", x.best(-1, 0), -10);
-        CHECK.due("best(5, 0)", x.best(5, 0), -10);
-        CHECK.due("best(0, -2)", x.best(0, -2), -10);
-        CHECK.due("best(0, 5)", x.best(0, 5), -10);
-        CHECK.due("best(MIN, 0)", x.best(Integer.MIN_VALUE, 0), -10);
-        CHECK.due("best(0, MAX)", x.best(0, Integer.MAX_VALUE), -10);
-        x.landing(0, 0);
-        CHECK.due("best(4, 4)", x.best(4, 4), -20);
-        x.thing(1, 0);
-        CHECK.due("best(4, 4)", x.best(4, 4), 0);
-        x.put(4, 1);
-        CHECK.due("best(4, 4)", x.best(4, 4), -20);
-        KnifeTrade y = new KnifeTrade();
-        y.thing(1, 0);
-        CHECK.due("best(4, NONE)", y.best(4, -1), -20);
     }
 
     private static void worth() {
@@ -378,36 +318,6 @@ public final class BestTest {
         x.put(5, 1);
         CHECK.dueBest(x, 4, 0);
         CHECK.due("where(4)", x.where(4), 0);
-    }
-
-    private static void othersRefused() {
-        CHECK.about("promises 18 to 21");
-        KnifeTrade x = new KnifeTrade();
-        CHECK.due("worth(0, 0)", x.worth(0, 0), -1000);
-        x.thing(1, 0);
-        for (int i = 0; i < 2; i++) {
-            CHECK.due("worth(0, 0)", x.worth(0, 0), -2000);
-            CHECK.due("worth(0, 4)", x.worth(0, 4), -2000);
-            CHECK.due("lack(0)", x.lack(0), -3);
-            CHECK.due("crew(0)", x.crew(0), -3);
-            CHECK.due("where(0)", x.where(0), -3);
-            for (int n : new int[] {-1, 5, Integer.MIN_VALUE, Integer.MAX_VALUE}) {
-                CHECK.due("worth(0, " + n + ")", x.worth(0, n), -1000);
-                CHECK.due("lack(" + n + ")", x.lack(n), -2);
-                CHECK.due("crew(" + n + ")", x.crew(n), -2);
-                CHECK.due("where(" + n + ")", x.where(n), -2);
-            }
-            CHECK.due("worth(-1, 0)", x.worth(-1, 0), -1000);
-            CHECK.due("worth(1, 0)", x.worth(1, 0), -1000);
-            // Now landings, but no home.
-            x.landing(0, 0);
-            x.put(4, 1);
-        }
-        x.put(4, 0);
-        CHECK.due("worth(0, 0)", x.worth(0, 0), 1);
-        CHECK.due("lack(0)", x.lack(0), -1);
-        CHECK.due("crew(0)", x.crew(0), 1);
-        CHECK.due("where(0)", x.where(0), 0);
     }
 
     private static void nothingIsChanged() {

@@ -48,10 +48,9 @@ public final class LanguageTest {
         if (!told.equals(there)) {
             CHECK.fail("the face is " + there);
         }
-        for (Method m : KnifeTrade.class.getDeclaredMethods()) {
-            if (!isSeen(m) && names.contains(m.getName())) {
-                CHECK.fail("a private method has the public name " + m.getName());
-            }
+        dueOtherNames(KnifeTrade.class, names);
+        for (Class<?> inside : KnifeTrade.class.getDeclaredClasses()) {
+            dueOtherNames(inside, names);
         }
         TreeSet<String> fields = new TreeSet<>();
         for (Field f : KnifeTrade.class.getDeclaredFields()) {
@@ -65,6 +64,15 @@ public final class LanguageTest {
         Constructor<?>[] made = KnifeTrade.class.getDeclaredConstructors();
         CHECK.due("constructors", made.length, 1);
         CHECK.due("its parameters", made[0].getParameterCount(), 0);
+    }
+
+    /** No method but those of the face bears the name of one of them. */
+    private static void dueOtherNames(Class<?> c, TreeSet<String> names) {
+        for (Method m : c.getDeclaredMethods()) {
+            if ((c != KnifeTrade.class || !isSeen(m)) && names.contains(m.getName())) {
+                CHECK.fail(c + " has a method of the public name " + m.getName());
+            }
+        }
     }
 
     private static boolean isSeen(Member m) {

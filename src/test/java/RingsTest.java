@@ -15,19 +15,12 @@ public final class RingsTest {
         price();
         priceOverWays();
         priceOfNearOnes();
-        priceRefused();
         largePrice();
         CHECK.end();
     }
 
     private static KnifeTrade river(int things) {
-        KnifeTrade x = new KnifeTrade();
-        x.landing(0, 0);
-        x.landing(1, 1);
-        for (int i = 0; i < things; i++) {
-            x.thing(1, 0);
-        }
-        return x;
+        return Rivers.plain(2, things);
     }
 
     /** The ring's changes in their row, and that there are no more. */
@@ -253,29 +246,6 @@ public final class RingsTest {
             x.change(0, 0, more[1], 1, more[0]);
             duePrice(x, 0, more[0], more[1]);
         }
-    }
-
-    private static void priceRefused() {
-        CHECK.about("promise 16");
-        KnifeTrade x = new KnifeTrade();
-        CHECK.due("price(0)", x.price(0), -2);
-        x = river(2);
-        CHECK.due("price(-1)", x.price(-1), -2);
-        CHECK.due("price(2)", x.price(2), -2);
-        x.put(4, 2);
-        CHECK.due("price(0)", x.price(0), -3);
-        CHECK.due("price(2)", x.price(2), -2);
-        CHECK.duePart(x, 0, 1);
-        x.thing(1, 0);
-        duePrice(x, 0, 0, 1);
-        x.put(4, 0);
-        x.change(0, 1, 5, 2, 4);
-        x.change(0, 2, 4, 1, 5);
-        duePrice(x, 0, 1, 1);
-        x.change(0, 2, 4, 1, 6);
-        CHECK.due("price(0)", x.price(0), -3);
-        CHECK.due("price(3)", x.price(3), -2);
-        CHECK.duePart(x, 1, 1);
     }
 
     private static void largePrice() {

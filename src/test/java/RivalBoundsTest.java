@@ -18,6 +18,7 @@ public final class RivalBoundsTest {
         emptyVoyages();
         goodsAreItsOwn();
         asFarAsItGoesRight();
+        wrongOnADayOfComingBack();
         daysPassForChangesAlone();
         daysOfItGoOn();
         timesDone();
@@ -162,6 +163,27 @@ public final class RivalBoundsTest {
         tell(y, "do 0 1;", "do 0 9;");
         CHECK.due("run(1, 1)", y.run(1, 1), 4);
         dueRival(y, 0, 1, 0, 0, 0, 50 - 4, 20);
+    }
+
+    /** The step ends on the day on which it goes wrong, before changes come back. */
+    private static void wrongOnADayOfComingBack() {
+        CHECK.about("promise 14, 'A DAY passes: .. HUNGRY .. FROZEN; CHANGES come back', in that row");
+        KnifeTrade x = trade(5, 1, 3, 99);
+        tell(x, "do 0 1;", "do 0 2; wait 3;");
+        dueRival(x, 0, 1, 0, 0, 0, 99 - 6, 1);
+        x.put(3, 2);
+        CHECK.due("run(1, 1)", x.run(1, 1), 2);
+        dueRival(x, 0, 1, 0, 0, 0, 99 - 7, 1);
+        dueRival(x, 2, 1, 0, 0, 0, 99 - 7, 1);
+        dueRival(x, 3, 1, 0, 0, 0, 99 - 6, 1);
+        x.put(3, 100);
+        x.put(2, 1);
+        x.start(1, 2);
+        // Two come of the changes: 4 are eaten in two days, and it is hungry on the third one.
+        CHECK.due("run(1, 1)", x.run(1, 1), 1);
+        CHECK.due("run(1, 2)", x.run(1, 2), 3);
+        dueRival(x, 0, 1, 0, 0, 0, 99 - 7, 3);
+        dueRival(x, 3, 1, 0, 0, 0, 99 - 6, 3);
     }
 
     private static void daysPassForChangesAlone() {

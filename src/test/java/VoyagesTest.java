@@ -12,10 +12,8 @@ public final class VoyagesTest {
         heavy();
         notDone();
         moved();
-        load();
         rival();
         rivalGoneWrong();
-        rivalRefused();
         CHECK.end();
     }
 
@@ -257,26 +255,6 @@ public final class VoyagesTest {
         CHECK.dueLoads(x, 90, 3);
     }
 
-    private static void load() {
-        CHECK.about("promise 13");
-        KnifeTrade x = new KnifeTrade();
-        CHECK.due("load(0, 0)", x.load(0, 0), -2);
-        x.thing(1, 0);
-        x.start(0, 7);
-        CHECK.due("load(0, 0)", x.load(0, 0), -3);
-        x.landing(0, 0);
-        CHECK.due("load(0, 0)", x.load(0, 0), 7);
-        CHECK.due("load(1, 0)", x.load(1, 0), 7);
-        CHECK.due("load(2, 0)", x.load(2, 0), -2);
-        CHECK.due("load(-1, 0)", x.load(-1, 0), -2);
-        CHECK.due("load(0, -1)", x.load(0, -1), -2);
-        CHECK.due("load(0, 1)", x.load(0, 1), -2);
-        Check.tell(x, 0, "up");
-        CHECK.due("load(0, 0)", x.load(0, 0), -3);
-        CHECK.due("load(0, 1)", x.load(0, 1), -2);
-        CHECK.due("load(1, 0)", x.load(1, 0), 7);
-    }
-
     private static void rival() {
         CHECK.about("promise 14");
         KnifeTrade x = river();
@@ -344,30 +322,5 @@ public final class VoyagesTest {
         CHECK.due("rival(4, 4)", x.rival(4, 4), 5);
         CHECK.due("rival(5, 4)", x.rival(5, 4), 6);
         CHECK.due("rival(5, 1)", x.rival(5, 1), 0);
-    }
-
-    private static void rivalRefused() {
-        CHECK.about("promise 14");
-        KnifeTrade x = new KnifeTrade();
-        CHECK.due("rival(0, 0)", x.rival(0, 0), -3);
-        CHECK.due("rival(0, 4)", x.rival(0, 4), -2);
-        x.landing(0, 0);
-        x.thing(1, 0);
-        CHECK.due("rival(0, 0)", x.rival(0, 0), 0);
-        CHECK.due("rival(99, 4)", x.rival(99, 4), 0);
-        CHECK.due("rival(-1, 0)", x.rival(-1, 0), -2);
-        CHECK.due("rival(100, 0)", x.rival(100, 0), -2);
-        CHECK.due("rival(0, -1)", x.rival(0, -1), -2);
-        CHECK.due("rival(0, 5)", x.rival(0, 5), -2);
-        CHECK.due("rival(0, 10)", x.rival(0, 10), -2);
-        CHECK.due("rival(0, MIN)", x.rival(0, Integer.MIN_VALUE), -2);
-        CHECK.due("rival(0, MAX)", x.rival(0, Integer.MAX_VALUE), -2);
-        for (int i = 0; i < 2; i++) {
-            Check.tell(x, i, "up");
-            CHECK.due("rival(0, 0)", x.rival(0, 0), -3);
-            CHECK.due("rival(0, 5)", x.rival(0, 5), -2);
-            x.clear(i);
-        }
-        CHECK.due("rival(0, 0)", x.rival(0, 0), 0);
     }
 }
